@@ -687,13 +687,14 @@ public final class ArsenalRow {
 
   /** What each of some DAYS brings to a yard, worked out from HANDS and DECREES once. */
   private static final class Almanac {
-    final int[][] hands;
+    /** Of each row the HANDS of CRAFT 0, then those of CRAFT 1, .. */
+    final int[] hands;
     final int[] crowds;
     final int[] wages;
     final int[] wines;
 
     Almanac(int rows) {
-      hands = new int[rows][CRAFTS];
+      hands = new int[rows * CRAFTS];
       crowds = new int[rows];
       wages = new int[rows];
       wines = new int[rows];
@@ -709,7 +710,7 @@ public final class ArsenalRow {
       wines[row] = 0;
       for (int craft = 0; craft < CRAFTS; craft++) {
         int here = crews.handsOfDay(craft, day);
-        hands[row][craft] = here;
+        hands[row * CRAFTS + craft] = here;
         wages[row] += here * decrees.inForce(WAGE_KIND, craft);
         wines[row] += here * decrees.inForce(WINE_KIND, craft);
       }
@@ -871,7 +872,7 @@ public final class ArsenalRow {
       int readied = moveOn(day, tasks);
       letIn(tasks);
       takeGoods();
-      doWork(almanac.hands[row], almanac.crowds[row]);
+      doWork(almanac.hands, row * CRAFTS, almanac.crowds[row]);
       paid += almanac.wages[row];
       drink(almanac.wines[row]);
       return readied;
@@ -939,8 +940,8 @@ public final class ArsenalRow {
     }
 
     /** A HULL has one TASK of one CRAFT, so one way along the line serves all CRAFTS. */
-    private void doWork(int[] hands, int crowd) {
-      System.arraycopy(hands, 0, handsLeft, 0, CRAFTS);
+    private void doWork(int[] hands, int from, int crowd) {
+      System.arraycopy(hands, from, handsLeft, 0, CRAFTS);
       for (int i = 0; i < lineLength; i++) {
         Hull hull = hulls[line[i]];
         if (hull.state == IN && hull.taken && hull.work > 0) {
@@ -1302,7 +1303,7 @@ public final class ArsenalRow {
       for (int row = 0; row < AHEAD_DAYS; row++) {
         almanac.write(row, from + 1 + row, crews, decrees);
         for (int craft = 0; craft < CRAFTS; craft++) {
-          if (almanac.crowds[row] > 0 && almanac.hands[row][craft] > 0) {
+          if (almanac.crowds[row] > 0 && almanac.hands[row * CRAFTS + craft] > 0) {
             lastRows[craft] = row;
           }
         }
