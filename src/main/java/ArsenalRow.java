@@ -77,7 +77,7 @@ public final class ArsenalRow {
   private final Matching matching = new Matching();
   private final Ledger ledger = new Ledger();
   private final Almanac today = new Almanac(1);
-  private final Outlook outlook = new Outlook(yard, tasks, crews, decrees);
+  private final Outlook outlook = new Outlook();
 
   public ArsenalRow() {
   }
@@ -457,7 +457,7 @@ public final class ArsenalRow {
     if (yard.hulls[hull].state == READY) {
       return yard.hulls[hull].readySince;
     }
-    return outlook.readyDay(hull, day);
+    return readyAhead(hull);
   }
 
   public int late(int hull) {
@@ -465,22 +465,20 @@ public final class ArsenalRow {
     if (fault != NO_FAULT) {
       return refused(fault);
     }
-    return lateness(outlook.readyDay(hull, day), yard.hulls[hull].due, day);
+    return lateness(readyAhead(hull), yard.hulls[hull].due, day);
   }
 
   public int least() {
-    if (yard.countOf(WAITING) + yard.countOf(IN) > MOST_ORDERED) {
+    if (!findOrder()) {
       return refused(STATE);
     }
-    outlook.findLeast(day);
     return outlook.leastSum;
   }
 
   public int order(int i) {
-    if (yard.countOf(WAITING) + yard.countOf(IN) > MOST_ORDERED) {
+    if (!findOrder()) {
       return refused(STATE);
     }
-    outlook.findLeast(day);
     return within(i, outlook.ordered) ? outlook.leastOrder[i] : NONE;
   }
 
@@ -579,6 +577,21 @@ public final class ArsenalRow {
   /** For answers that may be below 0 themselves, so that a refusal isn't taken for one. */
   private int refusedAside(int fault) {
     return ASIDE - refused(fault);
+  }
+
+  private int readyAhead(int hull) {
+    outlook.standAt(day, crews, decrees);
+    return outlook.readyDay(hull, yard, tasks);
+  }
+
+  /** Leaves the order that is least late in the outlook; false if there are too many HULLS for it. */
+  private boolean findOrder() {
+    if (yard.countOf(WAITING) + yard.countOf(IN) > MOST_ORDERED) {
+      return false;
+    }
+    outlook.standAt(day, crews, decrees);
+    outlook.findLeast(yard, tasks);
+    return true;
   }
 
   /** LATE of a HULL, seen from a DAY, if it is READY on readyDay (NONE: not within AHEAD_DAYS). */
@@ -1054,7 +1067,7 @@ public final class ArsenalRow {
     /** Above the WASTE of 6 PARTS: a TREE of 500 grows by 9 a YEAR for 5 YEARS. */
     static final int WASTE_BOUND = 4096;
     static final long LACK_UNIT = WASTE_BOUND * WASTE_UNIT;
-    static final long UNREACHED = Long.MAX_VALUE;
+    static final long UNREACHED = 1L << 62;
 
     int matched;
     int waste;
@@ -1173,31 +1186,23 @@ public final class ArsenalRow {
    */
   private static final class Outlook {
     static final int[] ORDERS_OF = {1, 1, 2, 6, 24, 120};
+    /** Above all that HULLS can be late together. */
+    static final int NOT_TRIED = 1000000;
 
     int leastSum;
     /** The order that is least late, and how many HULLS it has. */
     final int[] leastOrder = new int[MOST_ORDERED];
     int ordered;
-    private final Yard yard;
-    private final Tasks tasks;
-    private final Crews crews;
-    private final Decrees decrees;
-    private final Yard trial = new Yard();
+    private int from;
     private final Almanac almanac = new Almanac(AHEAD_DAYS);
     /** Of each CRAFT the last row of the almanac on which it can work. */
     private final int[] lastRows = new int[CRAFTS];
+    private final Yard trial = new Yard();
     private final int[] readyDays = new int[MOST_HULLS];
     private final int[] tried = new int[MOST_ORDERED];
     private boolean almanacKnown;
     private boolean readyKnown;
     private boolean leastKnown;
-
-    Outlook(Yard yard, Tasks tasks, Crews crews, Decrees decrees) {
-      this.yard = yard;
-      this.tasks = tasks;
-      this.crews = crews;
-      this.decrees = decrees;
-    }
 
     void forget() {
       almanacKnown = false;
@@ -1205,11 +1210,30 @@ public final class ArsenalRow {
       leastKnown = false;
     }
 
+    /** Looks ahead from a DAY on; to be called ahead of readyDay and findLeast. */
+    void standAt(int day, Crews crews, Decrees decrees) {
+      if (almanacKnown) {
+        return;
+      }
+      from = day;
+      decrees.rewind();
+      Arrays.fill(lastRows, -1);
+      for (int row = 0; row < AHEAD_DAYS; row++) {
+        almanac.write(row, from + 1 + row, crews, decrees);
+        for (int craft = 0; craft < CRAFTS; craft++) {
+          if (almanac.crowds[row] > 0 && almanac.hands[row * CRAFTS + craft] > 0) {
+            lastRows[craft] = row;
+          }
+        }
+      }
+      almanacKnown = true;
+    }
+
     /** The DAY on which a HULL that is WAITING or IN will be READY; NONE if not within AHEAD_DAYS. */
-    int readyDay(int hull, int from) {
+    int readyDay(int hull, Yard yard, Tasks tasks) {
       if (!readyKnown) {
         yard.lineUp();
-        tryOut(yard.line, yard.lineLength, from);
+        tryOut(yard, yard.line, yard.lineLength, tasks);
         for (int i = 0; i < yard.lineLength; i++) {
           readyDays[yard.line[i]] = trial.hulls[yard.line[i]].readySince;
         }
@@ -1219,16 +1243,16 @@ public final class ArsenalRow {
     }
 
     /** At most MOST_ORDERED HULLS may be WAITING or IN. */
-    void findLeast(int from) {
+    void findLeast(Yard yard, Tasks tasks) {
       if (leastKnown) {
         return;
       }
-      gatherByNumbers();
-      leastSum = Integer.MAX_VALUE;
+      gatherByNumbers(yard);
+      leastSum = NOT_TRIED;
       // No order is less late than one that isn't late at all.
       for (int turn = 0; turn < ORDERS_OF[ordered] && leastSum > 0; turn++) {
-        tryOut(tried, ordered, from);
-        int sum = sumOfLate(from);
+        tryOut(yard, tried, ordered, tasks);
+        int sum = sumOfLate();
         if (sum < leastSum) {
           leastSum = sum;
           System.arraycopy(tried, 0, leastOrder, 0, ordered);
@@ -1238,7 +1262,7 @@ public final class ArsenalRow {
       leastKnown = true;
     }
 
-    private void gatherByNumbers() {
+    private void gatherByNumbers(Yard yard) {
       ordered = 0;
       for (int h = 0; h < yard.hullCount && ordered < MOST_ORDERED; h++) {
         if (yard.hulls[h].isUnderWay()) {
@@ -1248,7 +1272,7 @@ public final class ArsenalRow {
       }
     }
 
-    private int sumOfLate(int from) {
+    private int sumOfLate() {
       int sum = 0;
       for (int i = 0; i < ordered; i++) {
         Hull hull = trial.hulls[tried[i]];
@@ -1271,8 +1295,10 @@ public final class ArsenalRow {
         other--;
       }
       swapTried(at, other);
-      for (int low = at + 1, high = ordered - 1; low < high; low++, high--) {
+      int high = ordered - 1;
+      for (int low = at + 1; low < high; low++) {
         swapTried(low, high);
+        high--;
       }
     }
 
@@ -1283,8 +1309,7 @@ public final class ArsenalRow {
     }
 
     /** Lets DAYS pass in the trial yard until all HULLS of the line are READY or none can stir again. */
-    private void tryOut(int[] line, int length, int from) {
-      writeAlmanac(from);
+    private void tryOut(Yard yard, int[] line, int length, Tasks tasks) {
       trial.become(yard, line, length);
       int readied = 0;
       boolean alive = true;
@@ -1292,23 +1317,6 @@ public final class ArsenalRow {
         readied += trial.passDay(from + 1 + row, almanac, row, tasks);
         alive = trial.stirred || workIsAhead(row);
       }
-    }
-
-    private void writeAlmanac(int from) {
-      if (almanacKnown) {
-        return;
-      }
-      decrees.rewind();
-      Arrays.fill(lastRows, -1);
-      for (int row = 0; row < AHEAD_DAYS; row++) {
-        almanac.write(row, from + 1 + row, crews, decrees);
-        for (int craft = 0; craft < CRAFTS; craft++) {
-          if (almanac.crowds[row] > 0 && almanac.hands[row * CRAFTS + craft] > 0) {
-            lastRows[craft] = row;
-          }
-        }
-      }
-      almanacKnown = true;
     }
 
     /**

@@ -17,7 +17,7 @@ public final class LanguageTest {
   private static final String[] BARRED = {
       "\\bthrow\\b", "\\btry\\b", "\\bcatch\\b", "\\bsynchronized\\b", "\\bassert\\b", "->", "::",
       "\\bhashCode\\b", "\\bSystem\\.(?!arraycopy)", "\\w+Exact\\b", "\\bprotected\\b", "\\bpackage\\b",
-      "\\bimport (?!java\\.util\\.Arrays;)", "[^\\x00-\\x7f]", "\\bstatic \\{"};
+      "\\bimport (?!java\\.util\\.Arrays;)", "[^\\x00-\\x7f]", "\\bstatic \\{", "\\bM(AX|IN)_VALUE\\b"};
   private static int wrong = 0;
 
   private static void need(boolean held, String rule) {

@@ -46,6 +46,8 @@ public final class PromisesTest {
     gap();
     worst();
     ready();
+    readyOfFewHands();
+    askedAgain();
     late();
     least();
     order();
@@ -53,6 +55,7 @@ public final class PromisesTest {
     basinOf();
     stock();
     told();
+    full();
     System.out.println(wrong == 0 ? "all promises hold" : wrong + " answers are not as due");
     if (wrong != 0) System.exit(1);
   }
@@ -245,6 +248,8 @@ public final class PromisesTest {
     due("10 no room", x.decree(0, 0, 1, 3), -6);
     due("10 below ahead of no room", x.decree(0, 0, -1, 3), -4);
     due("10 how many", x.told(7), 40);
+    due("10 all are in force", x.force(0, 0, 2000), 0);
+    due("10 all but four", x.force(0, 0, 1999), 1);
   }
 
   /** 11 */
@@ -722,6 +727,12 @@ public final class PromisesTest {
     x.days(7);
     x.breakUp(0);
     due("25 broken", x.treeFor(0, 0), 1);
+    x.hull(0, 0, 0);
+    x.part(2, 0, 0, 0, 4);
+    x.hull(2, 0, 0);
+    x.fell(2);
+    due("25 tree 0", x.treeFor(2, 0), 0);
+    due("25 of another hull", x.treeFor(1, 0), -9);
   }
 
   /** 26 */
@@ -762,6 +773,9 @@ public final class PromisesTest {
     due("27 no room", x.count(0, 0), 2000000006);
     due("27 below ahead of no room", x.count(0, -1), 2000000004);
     due("27 how many", x.told(8), 40);
+    due("27 the worst of all", x.worst(4), 1);
+    due("27 the last", x.gap(39, 0), 39 % 6);
+    due("27 none behind it", x.gap(40, 0), 2000000001);
     due("27 refusals", x.told(16), 2);
   }
 
@@ -813,6 +827,17 @@ public final class PromisesTest {
     x.count(2, 1);
     x.count(2, 0);
     due("29 large ones", x.worst(2), 6);
+
+    ArsenalRow y = new ArsenalRow();
+    y.bring(0, 100);
+    y.days(2);
+    y.count(0, 99); // 1 in 2 days
+    due("29 a gap of 1", y.worst(0), 0);
+    y.count(0, 98); // 1 in no day
+    due("29 no day counts 1, not 2", y.worst(0), 1);
+    y.days(1);
+    y.count(0, 96); // 2 in 1 day
+    due("29 a span of a day", y.worst(0), 2);
   }
 
   /** 30 */
@@ -850,6 +875,109 @@ public final class PromisesTest {
     x.hull(0, 0, 2000);
     due("30 behind day 2000", x.ready(1), 2000 + 9);
     due("30 late", x.late(1), 9);
+  }
+
+  /** 30: a HULL for which hands come late and singly isn't given up */
+  private static void readyOfFewHands() {
+    ArsenalRow x = new ArsenalRow();
+    x.row(0, 30);
+    x.put(0, 29, 1);
+    x.lead(3, 0);
+    x.decree(3, 0, 1, 0);
+    x.task(0, 0, 3, 2);
+    x.hull(0, 0, 0);
+    due("30 on days 29 and 59", x.ready(0), 59 + 6);
+    x.task(0, 0, 3, 9);
+    due("30 on day 269", x.ready(0), 269 + 6);
+    x.task(0, 0, 3, 10);
+    due("30 on day 299", x.ready(0), -9);
+    x.days(5);
+    due("30 then in sight", x.ready(0), 299 + 6);
+    x.put(0, 29, 400);
+    due("30 one hand at a time", x.ready(0), 299 + 6);
+    x.decree(3, 1, 2, 5);
+    due("30 two at a time", x.ready(0), 149 + 6);
+    x.decree(2, 1, 30, 30);
+    x.put(0, 29, 0);
+    x.put(0, 0, 400);
+    due("30 only on feasts", x.ready(0), -9);
+  }
+
+  /** 30 .. 33: what was asked is asked anew of every change */
+  private static void askedAgain() {
+    ArsenalRow x = new ArsenalRow();
+    x.task(0, 0, 0, 40);
+    x.hull(0, 0, 0);
+    due("30 no hands", x.ready(0), -9);
+    due("32 no hands", x.least(), 301);
+    x.hands(0, 4);
+    due("30 hands", x.ready(0), 16);
+    due("32 hands", x.least(), 16);
+    x.row(0, 1);
+    due("30 not led", x.ready(0), 16);
+    x.lead(0, 0);
+    due("30 lead", x.ready(0), -9);
+    due("32 lead", x.least(), 301);
+    x.put(0, 0, 8);
+    due("30 put", x.ready(0), 11);
+    x.row(0, 1);
+    due("30 row", x.ready(0), -9);
+    x.row(1, 1);
+    x.put(1, 0, 40);
+    due("30 another's", x.ready(0), -9);
+    x.copy(1, 0, 0, 0, 1);
+    due("30 copy", x.ready(0), 7);
+    x.lose(0);
+    due("30 lose", x.ready(0), 16);
+    due("32 lose", x.least(), 16);
+    x.decree(3, 0, 2, 0);
+    due("30 decree", x.ready(0), 26);
+    x.task(0, 0, 0, 2);
+    due("30 task", x.ready(0), 7);
+    x.needs(0, 0, 0, 5);
+    due("30 needs", x.ready(0), -9);
+    x.bring(0, 5);
+    due("30 bring", x.ready(0), 7);
+    x.count(0, 4);
+    due("30 count", x.ready(0), -9);
+    x.count(0, 5);
+    due("30 count", x.ready(0), 7);
+    x.raft(3, 1);
+    due("30 raft", x.ready(0), -9);
+    x.unraft(3);
+    due("30 unraft", x.ready(0), 7);
+    x.hull(0, 0, 0);
+    due("30 hull", x.ready(0), 7);
+    due("30 hull", x.ready(1), -9);
+    x.priority(1, 1);
+    due("30 priority", x.ready(0), -9);
+    due("30 priority", x.ready(1), 7);
+    x.days(20);
+    due("30 days", x.ready(0), -9);
+    x.bring(0, 2);
+    due("30 bring", x.ready(0), -9);
+    x.breakUp(1);
+    due("30 breakUp brings 2 of 5", x.ready(0), -9);
+    x.count(0, 3);
+    due("30 count", x.ready(0), -9);
+    x.bring(0, 2);
+    due("30 bring", x.ready(0), 27);
+    brokenForAnother();
+  }
+
+  private static void brokenForAnother() {
+    ArsenalRow x = new ArsenalRow();
+    x.needs(0, 0, 1, 4);
+    x.needs(1, 0, 1, 2);
+    x.bring(1, 4);
+    x.hull(0, 0, 0);
+    x.hull(1, 0, 0);
+    x.days(10);
+    due("30 lacks", x.ready(1), -9);
+    due("32 lacks", x.least(), 311);
+    x.breakUp(0);
+    due("30 breakUp", x.ready(1), 17);
+    due("32 breakUp", x.least(), 17);
   }
 
   /** 31 */
@@ -1017,5 +1145,22 @@ public final class PromisesTest {
     x.days(7);
     int[] want = {7, 2, 1, 1, 105, 42, 21, 2, 1};
     for (int what = 0; what < 9; what++) due("37 told " + what, x.told(what), want[what]);
+  }
+
+  /** As many of everything as there may be. */
+  private static void full() {
+    ArsenalRow x = new ArsenalRow();
+    for (int h = 0; h < 16; h++) x.hull(h % 3, h, h);
+    due("18 all wait", x.days(1), 0);
+    due("30 the last of sixteen", x.ready(0), 22);
+    due("31 the last of sixteen", x.late(0), 22);
+    due("18 all", x.days(21), 16);
+    due("18 greater priorities first", x.hullOf(15, 8), 7);
+    due("37 ready", x.told(2), 16);
+    for (int h = 0; h < 16; h++) due("19 broken", x.breakUp(h), 0);
+    due("37 none", x.told(2), 0);
+    due("14 no room", x.hull(0, 0, 0), -6);
+    due("32 none", x.least(), 0);
+    due("33 none", x.order(0), -9);
   }
 }
