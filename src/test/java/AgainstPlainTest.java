@@ -1,8 +1,5 @@
-import java.lang.reflect.Method;
 import java.util.ArrayList;
-import java.util.HashMap;
 import java.util.List;
-import java.util.Map;
 import java.util.Random;
 
 /** Long runs of calls, made by a seed, answered by ArsenalRow as by PlainArsenal. */
@@ -23,20 +20,16 @@ public final class AgainstPlainTest {
       Integer.MIN_VALUE, Integer.MAX_VALUE};
 
   private final Random random;
-  private final ArsenalRow row = new ArsenalRow();
+  private final Calls row = Calls.of(new ArsenalRow());
   private final PlainArsenal plain = new PlainArsenal();
   private final List<String> log = new ArrayList<>();
-  private static final Map<String, Method> METHODS = new HashMap<>();
   private static int wrong = 0;
 
   private AgainstPlainTest(long seed) {
     random = new Random(seed);
   }
 
-  public static void main(String[] args) throws Exception {
-    for (Method m : ArsenalRow.class.getDeclaredMethods()) {
-      if (java.lang.reflect.Modifier.isPublic(m.getModifiers())) METHODS.put(m.getName(), m);
-    }
+  public static void main(String[] args) {
     int runs = args.length > 0 ? Integer.parseInt(args[0]) : 300;
     long first = args.length > 1 ? Long.parseLong(args[1]) : 1;
     for (long seed = first; seed < first + runs && wrong == 0; seed++) {
@@ -46,7 +39,7 @@ public final class AgainstPlainTest {
     if (wrong != 0) System.exit(1);
   }
 
-  private void run(long seed) throws Exception {
+  private void run(long seed) {
     if (random.nextInt(4) != 0) setUp();
     int trees = random.nextInt(3) == 0 ? 40 : 9;
     int orders = 2;
@@ -65,13 +58,13 @@ public final class AgainstPlainTest {
     }
   }
 
-  private void askOrders(long seed) throws Exception {
+  private void askOrders(long seed) {
     check(seed, "least");
     for (int i = -1; i < 6; i++) check(seed, "order", i);
   }
 
   /** So that HULLS do come through. */
-  private void setUp() throws Exception {
+  private void setUp() {
     for (int c = 0; c < 4; c++) check(0, "hands", c, 5 + random.nextInt(60));
     for (int g = 0; g < 6; g++) check(0, "bring", g, random.nextInt(4000));
     for (int s = 0; s < 3; s++) {
@@ -117,14 +110,10 @@ public final class AgainstPlainTest {
     }
   }
 
-  private void check(long seed, String name, int... a) throws Exception {
-    Object[] boxed = new Object[a.length];
+  private void check(long seed, String name, int... a) {
     StringBuilder text = new StringBuilder(name).append('(');
-    for (int k = 0; k < a.length; k++) {
-      boxed[k] = a[k];
-      text.append(k == 0 ? "" : ", ").append(a[k]);
-    }
-    int got = (Integer) METHODS.get(name).invoke(row, boxed);
+    for (int k = 0; k < a.length; k++) text.append(k == 0 ? "" : ", ").append(a[k]);
+    int got = row.call(name, a);
     int want = plain.call(name, a);
     log.add(text + ") = " + got);
     if (got != want) {

@@ -6,7 +6,7 @@ import java.util.List;
  * sorted, nothing is remembered between calls, AHEAD copies everything, a MATCH
  * is sought among all. The tests compare ArsenalRow with it.
  */
-final class PlainArsenal {
+final class PlainArsenal implements Calls {
   static final class Ship {
     int sort, priority, due, state, basin = -9, craft, work, lack, since = -9;
     boolean taken, felled;
@@ -49,7 +49,8 @@ final class PlainArsenal {
     return 2000000000 - no(code);
   }
 
-  int call(String name, int... a) {
+  @Override
+  public int call(String name, int... a) {
     switch (name) {
       case "hands": {
         if (!in(a[0], 0, 3)) return no(-1);
