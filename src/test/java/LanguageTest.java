@@ -1,3 +1,4 @@
+import java.lang.reflect.Array;
 import java.lang.reflect.Constructor;
 import java.lang.reflect.Field;
 import java.lang.reflect.Method;
@@ -6,7 +7,9 @@ import java.nio.file.Files;
 import java.nio.file.Path;
 import java.util.ArrayList;
 import java.util.Arrays;
+import java.util.IdentityHashMap;
 import java.util.List;
+import java.util.Map;
 import java.util.Set;
 import java.util.TreeSet;
 import java.util.regex.Matcher;
@@ -17,7 +20,12 @@ public final class LanguageTest {
   private static final String[] BARRED = {
       "\\bthrow\\b", "\\btry\\b", "\\bcatch\\b", "\\bsynchronized\\b", "\\bassert\\b", "->", "::",
       "\\bhashCode\\b", "\\bSystem\\.(?!arraycopy)", "\\w+Exact\\b", "\\bprotected\\b", "\\bpackage\\b",
-      "\\bimport (?!java\\.util\\.Arrays;)", "[^\\x00-\\x7f]", "\\bstatic \\{", "\\bM(AX|IN)_VALUE\\b"};
+      "\\bimport (?!java\\.util\\.Arrays;)", "[^\\x00-\\x7f]", "\\bstatic \\{", "\\bM(AX|IN)_VALUE\\b",
+      "\\bArrays\\.(?!(fill|copyOf|copyOfRange)\\()", "\\bequals\\b", "\\btoString\\b", "\\bclass \\w+ extends\\b"};
+  /** What one object may be made of, so that the room of all calls has place for a thousand objects. */
+  private static final int MOST_OBJECTS = 250;
+  private static final int MOST_ELEMENTS = 6000;
+  private static final int MOST_LINES = 60;
   private static int wrong = 0;
 
   private static void need(boolean held, String rule) {
@@ -39,7 +47,10 @@ public final class LanguageTest {
     classes.add(ArsenalRow.class);
     need(classes.size() <= 12, "11: some twelve classes");
     for (Class<?> c : classes) checkClass(c, face);
-    checkWords(source.replaceAll("(?s)/\\*.*?\\*/", "").replaceAll("//[^\n]*", ""));
+    String code = source.replaceAll("(?s)/\\*.*?\\*/", "").replaceAll("//[^\n]*", "");
+    checkWords(code);
+    checkMethods(code);
+    checkRoom();
     System.out.println(wrong == 0 ? "the language is kept to" : wrong + " rules are not kept to");
     if (wrong != 0) System.exit(1);
   }
@@ -89,5 +100,53 @@ public final class LanguageTest {
       Matcher m = Pattern.compile(barred).matcher(code);
       need(!m.find(), "the source has " + barred);
     }
+  }
+
+  /** Methods as they are indented here: short, and only constructors make something. */
+  private static void checkMethods(String code) {
+    String head = "";
+    int begun = 0;
+    String[] lines = code.split("\n");
+    for (int k = 0; k < lines.length; k++) {
+      String line = lines[k];
+      if (head.isEmpty() && line.matches(" {2}( {2})?[\\w\\[\\] ]+\\(.*\\) \\{")) {
+        head = line;
+        begun = k;
+      }
+      boolean makes = !head.isEmpty() && line.contains("new ");
+      need(!makes || head.matches(" +(public )?[A-Z]\\w*\\(.*"), "12: made in a method: " + line.trim());
+      if (!head.isEmpty() && line.equals(head.replaceAll("\\S.*", "}"))) {
+        need(k - begun < MOST_LINES, "11: too long: " + head.trim());
+        head = "";
+      }
+    }
+    need(head.isEmpty(), "the end of a method was not found: " + head.trim());
+  }
+
+  /** Counts what an object is made of, as "All calls of one run live in ONE room" asks. */
+  private static void checkRoom() throws IllegalAccessException {
+    Map<Object, Boolean> seen = new IdentityHashMap<>();
+    long elements = countElements(new ArsenalRow(), seen);
+    need(seen.size() <= MOST_OBJECTS, "an object is made of " + seen.size() + " objects");
+    need(elements <= MOST_ELEMENTS, "an object is made of " + elements + " fields and elements");
+  }
+
+  private static long countElements(Object o, Map<Object, Boolean> seen) throws IllegalAccessException {
+    if (o == null || seen.put(o, true) != null) return 0;
+    long sum = 0;
+    if (o.getClass().isArray()) {
+      sum = Array.getLength(o);
+      if (o instanceof Object[]) {
+        for (Object one : (Object[]) o) sum += countElements(one, seen);
+      }
+      return sum;
+    }
+    for (Field f : o.getClass().getDeclaredFields()) {
+      if (Modifier.isStatic(f.getModifiers())) continue;
+      sum++;
+      f.setAccessible(true);
+      if (!f.getType().isPrimitive()) sum += countElements(f.get(o), seen);
+    }
+    return sum;
   }
 }
